@@ -669,15 +669,15 @@ public final class StonesAbove {
         }
 
         int weightOf(int walker) {
-            return has(walker) && walker < weights.length ? weights[walker] : 0;
+            return walker >= 0 && walker < walkers && walker < weights.length ? weights[walker] : 0;
         }
 
         int skillOf(int walker) {
-            return has(walker) && walker < skills.length ? skills[walker] : 0;
+            return walker >= 0 && walker < walkers && walker < skills.length ? skills[walker] : 0;
         }
 
         int helmetOf(int walker) {
-            return has(walker) && walker < helmets.length ? helmets[walker] : 0;
+            return walker >= 0 && walker < walkers && walker < helmets.length ? helmets[walker] : 0;
         }
 
         int helmetsInAll() {
@@ -1198,7 +1198,7 @@ public final class StonesAbove {
             return best;
         }
 
-        /** As a product of sixteenths: all figures have as many factors, so the products compare; 2 to the 32nd at most. */
+        /** A product of sixteenths, 2 to the 32nd at most; each figure has as many factors, so they compare. */
         private long likelihood(int figure, int part, Party party) {
             long product = 1;
             for (int i = 0; i < told && i < walkers.length && i < parts.length && i < stonesFell.length; i++) {

@@ -49,6 +49,9 @@ public final class OthersTest {
         dueWait(x, 3, 0, 64, 0, 3, 1);
         dueWait(x, 1, 2, 32, 0, 1, 1);
         dueWait(x, 1, 2, 33, 1, 1, 1);
+        // HARM is 40, 32, 8, 0: 640 256ths for a wait of 0 and of 2, and some are hit in both.
+        Check.retype(x, 0, "l1l8.l6l2");
+        dueWait(x, 1, 2, 16, 0, 5, 2);
     }
 
     /** WALKERS need two minutes for a PART, OTHERS one; those of odd numbers are not hit. */
@@ -178,18 +181,19 @@ public final class OthersTest {
     }
 
     private static void read() {
-        StonesAbove x = Check.with("..", "10.;10.");
+        StonesAbove x = Check.with("...", "10.;10.");
         Check.due("read, lost", x.read(2), -11);
         Check.due("read(4)", x.read(4), -2);
         Check.due("read(-1)", x.read(-1), -2);
         x.sheet(2, 0, 8);
-        int[] items = {1, 1, 1, 5, 15, 0, 0, 0};
+        int[] items = {1, 2, 1, 5, 15, 0, 0, 0};
         for (int i = 0; i < items.length; i++) {
             x.lay(2, 0, i, items[i]);
         }
         Check.due("read: two are whole", x.read(2), 2);
         Check.due("count(4)", x.count(4), 2);
-        Check.due("loose(1) by what was read", x.loose(1), 9);
+        Check.due("loose(2) by what was read", x.loose(2), 9);
+        Check.due("loose(1), of which nothing was", x.loose(1), 1);
         int[][] worse = {{3, 6}, {4, 16}, {5, 2}, {3, -1}, {4, -1}, {5, -1}};
         for (int[] w : worse) {
             x.forget();
