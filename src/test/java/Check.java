@@ -23,6 +23,16 @@ final class Check {
         due(call + " below", below, wantBelow);
     }
 
+    /** The same, of a HARM told in 256ths. */
+    static void dueOf256(String call, long above, long below, long due) {
+        long shared = greatestDivisor(256, due);
+        dueFraction(call, above, below, due / shared, 256 / shared);
+    }
+
+    static long greatestDivisor(long a, long b) {
+        return b == 0 ? a : greatestDivisor(b, a % b);
+    }
+
     static StonesAbove with(String gully, String walkers) {
         StonesAbove x = new StonesAbove();
         type(x, 0, gully);

@@ -111,35 +111,35 @@ public final class FallsTest {
     /** WALKER 0 comes into PART 2 (ODDS 4 and 3) in minute 2, when WALKER 1 is in 1, WALKER 2 in 0. */
     private static void harmByWalkers() {
         StonesAbove x = Check.with("..l4", "90.;11h;11.");
-        dueHarm(x, 0, 1, 0, 1);
-        dueHarm(x, 0, 2, 14, 256);
-        dueHarm(x, 1, 2, 4, 256);
-        dueHarm(x, 1, 0, 0, 1);
-        dueHarm(x, 2, 0, 0, 1);
+        dueHarm(x, 0, 1, 0);
+        dueHarm(x, 0, 2, 14);
+        dueHarm(x, 1, 2, 4);
+        dueHarm(x, 1, 0, 0);
+        dueHarm(x, 2, 0, 0);
         x.set(3, 700);
-        dueHarm(x, 0, 2, 14, 256);
+        dueHarm(x, 0, 2, 14);
         x.set(0, 2);
-        dueHarm(x, 0, 1, 7, 256);
-        dueHarm(x, 0, 2, 0, 1);
+        dueHarm(x, 0, 1, 7);
+        dueHarm(x, 0, 2, 0);
         x.set(0, 0);
-        dueHarm(x, 0, 1, 0, 1);
+        dueHarm(x, 0, 1, 0);
         Check.retype(x, 0, "n.l4");
         x.set(0, 2);
-        dueHarm(x, 0, 1, 14, 256);
+        dueHarm(x, 0, 1, 14);
         Check.retype(x, 0, "s.l4");
-        dueHarm(x, 0, 1, 0, 1);
+        dueHarm(x, 0, 1, 0);
     }
 
     private static void harmInZigzag() {
         StonesAbove x = Check.with("..l4", "90.;11.;11.");
         x.set(1, 1);
-        dueHarm(x, 0, 1, 0, 1);
-        dueHarm(x, 0, 2, 7, 256);
+        dueHarm(x, 0, 1, 0);
+        dueHarm(x, 0, 2, 7);
         x.set(0, 2);
-        dueHarm(x, 0, 1, 0, 1);
-        dueHarm(x, 0, 2, 14, 256);
+        dueHarm(x, 0, 1, 0);
+        dueHarm(x, 0, 2, 14);
         x.set(1, 0);
-        dueHarm(x, 0, 1, 14, 256);
+        dueHarm(x, 0, 1, 14);
     }
 
     private static void harmBySun() {
@@ -147,20 +147,20 @@ public final class FallsTest {
         x.set(4, 1);
         x.set(5, 3);
         // Minute 1 in PART 1: 1 and 2; minute 2 in PART 2: 1. The second: PART 0 in minute 1: 1 and 1, then 0 and 1, 0.
-        dueHarm(x, -1, 0, 12, 256);
-        dueHarm(x, -1, 1, 9, 256);
+        dueHarm(x, -1, 0, 12);
+        dueHarm(x, -1, 1, 9);
         x.set(4, 0);
-        dueHarm(x, -1, 0, 27, 256);
+        dueHarm(x, -1, 0, 27);
         x.set(1, 1);
-        dueHarm(x, -1, 0, 54, 256);
+        dueHarm(x, -1, 0, 54);
         x.set(4, 1);
-        dueHarm(x, -1, 0, 39, 256);
-        dueHarm(x, -1, 1, 18, 256);
+        dueHarm(x, -1, 0, 39);
+        dueHarm(x, -1, 1, 18);
         x.set(5, 0);
-        dueHarm(x, -1, 0, 0, 1);
+        dueHarm(x, -1, 0, 0);
         x.set(5, 16);
         x.set(4, 8);
-        dueHarm(x, -1, 0, 0, 1);
+        dueHarm(x, -1, 0, 0);
     }
 
     private static void harmRefused() {
@@ -221,12 +221,7 @@ public final class FallsTest {
         Check.due("latest() without WALKERS", x.latest(), 20);
     }
 
-    private static void dueHarm(StonesAbove x, int by, int to, long above256, long below) {
-        long shared = above256 == 0 ? below : gcd(above256, below);
-        Check.dueFraction("harm(" + by + ", " + to + ")", x.harm(by, to, 0), x.harm(by, to, 1), above256 / shared, below / shared);
-    }
-
-    private static long gcd(long a, long b) {
-        return b == 0 ? a : gcd(b, a % b);
+    private static void dueHarm(StonesAbove x, int by, int to, long above256) {
+        Check.dueOf256("harm(" + by + ", " + to + ")", x.harm(by, to, 0), x.harm(by, to, 1), above256);
     }
 }
