@@ -11,6 +11,7 @@ public final class DigestEdgesTest {
         digestOfOneWalkerAndOnePart();
         digestOfTwo();
         digestWithoutWalkers();
+        digestOfFaultyTexts();
         digestLeavesAllAsItIs();
         fiveHundredAndTwelveCalls();
         Check.end();
@@ -123,6 +124,18 @@ public final class DigestEdgesTest {
             BAD, BAD, BAD,
             0, 0, 1,
             NOT, NOT, 0);
+    }
+
+    /** As without PARTS and WALKERS, but for the bytes and the FAULTS. */
+    private static void digestOfFaultyTexts() {
+        dueDigest("faulty texts", Check.with("l9.x", "90.;9"),
+            0, 0, 4, 5, 0, 0, 1, 0,
+            3, 5,
+            0, 1, 0, 999, 0, 1, 0,
+            -1, -1, 0, 1,
+            BAD, BAD, BAD,
+            0, 0, 1,
+            BAD, BAD, 0);
     }
 
     private static void digestLeavesAllAsItIs() {

@@ -5,6 +5,7 @@ public final class HarmEdgesTest {
     public static void main(String[] args) {
         fromTheSunOn();
         sunBeforeBeginAndAfterEnds();
+        sunBeforeTheTexts();
         sunNone();
         sunFindsAllAlike();
         sunAndHelmets();
@@ -54,6 +55,26 @@ public final class HarmEdgesTest {
         Check.dueOf256("12 SUN when nothing is above", x.harm(-1, 0, 0), x.harm(-1, 0, 1), 0);
         x.set(4, 1999);
         Check.dueOf256("12 SUN 1999", x.harm(-1, 0, 0), x.harm(-1, 0, 1), 0);
+    }
+
+    /** The texts may come behind the settings, and change. */
+    private static void sunBeforeTheTexts() {
+        StonesAbove x = new StonesAbove();
+        x.set(4, 0);
+        Check.type(x, 0, "....l1");
+        Check.type(x, 1, "19.");
+        Check.dueOf256("12 the SUN", x.harm(-1, 0, 0), x.harm(-1, 0, 1), 10);
+        x.undo(0);
+        Check.dueOf256("12 the SUN, one byte undone", x.harm(-1, 0, 0), x.harm(-1, 0, 1), 0);
+        x.type(0, '9');
+        Check.type(x, 0, ".l9");
+        Check.dueOf256("12 the SUN, two PARTS more", x.harm(-1, 0, 0), x.harm(-1, 0, 1), 10 + 21);
+        x.wipe(0);
+        Check.dueOf256("12 the SUN, no PARTS", x.harm(-1, 0, 0), x.harm(-1, 0, 1), 0);
+        Check.type(x, 0, "nl1");
+        Check.dueOf256("12 the SUN, other PARTS", x.harm(-1, 0, 0), x.harm(-1, 0, 1), 2);
+        Check.retype(x, 1, "19h");
+        Check.dueOf256("12 the SUN, a helmet", x.harm(-1, 0, 0), x.harm(-1, 0, 1), 1);
     }
 
     /** "SUNNED (0 to 16; 1 at first)". */

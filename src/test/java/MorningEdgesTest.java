@@ -18,6 +18,7 @@ public final class MorningEdgesTest {
         feetBeforeTheSun();
         walkersByNumbers();
         partsByNumbers();
+        theLowestPartDrawsToo();
         fromTheSunOn();
         theSunBeforeBeginDrawsNothing();
         oddNumbersInZigzag();
@@ -200,6 +201,19 @@ public final class MorningEdgesTest {
             lot();
             due += lot() < 9 && lot() < 1 ? 1 : 0;
             Check.due("27 PARTS by numbers", x.morning(s), due);
+        }
+    }
+
+    /** The SUN's stone from PART 0 has nobody below, but its LOT is drawn, behind that of the foot. */
+    private static void theLowestPartDrawsToo() {
+        for (int s : seeds()) {
+            StonesAbove x = Check.with("l1sssssssl1", "19.");
+            x.set(4, 0);
+            x.set(5, 9);
+            seeded(s);
+            lot();
+            lot();
+            Check.due("27 PART 0 is LOOSE", x.morning(s), lot() < 9 && lot() < 8 ? 1 : 0);
         }
     }
 

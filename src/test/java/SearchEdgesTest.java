@@ -17,6 +17,7 @@ public final class SearchEdgesTest {
         waitOfEachNumberOfOthers();
         waitByCost();
         waitOfLikeOnes();
+        waitOfLikeOnesStillHit();
         waitForEvenNumbers();
         waitOfNone();
         Check.end();
@@ -104,29 +105,33 @@ public final class SearchEdgesTest {
 
     /** All 720 rows, each typed as a text: none has less HARM than ORDER's, and none that has as much is less. */
     private static void orderAmongAllRows() {
-        for (int zigzag = 0; zigzag < 2; zigzag++) {
-            StonesAbove x = walking("nl4.l9sl2.l7", first(6), zigzag);
-            int[] order = new int[6];
-            for (int i = 0; i < 6; i++) {
-                order[i] = x.order(i);
-            }
-            int[] best = null;
-            long least = Long.MAX_VALUE;
-            for (int r = 0; r < 720; r++) {
-                int[] row = rowOf(r);
-                long harm = of256(walking("nl4.l9sl2.l7", row(row), zigzag));
-                if (harm < least) {
-                    least = harm;
-                    best = row;
-                }
-            }
-            Check.due("18 the least row", java.util.Arrays.equals(order, best) ? 1 : 0, 1);
-            Check.dueOf256("19 ordered", x.ordered(0), x.ordered(1), least);
+        for (int gap : new int[] {0, 1, 2, 5, 99}) {
+            dueAmongAllRows(gap, 0);
+            dueAmongAllRows(gap, 1);
         }
     }
 
-    private static StonesAbove walking(String gully, String walkers, int zigzag) {
+    private static void dueAmongAllRows(int gap, int zigzag) {
+        int[] best = null;
+        long least = Long.MAX_VALUE;
+        for (int r = 0; r < 720; r++) {
+            int[] row = rowOf(r);
+            long harm = of256(walking("nl4.l9sl2.l7", row(row), gap, zigzag));
+            if (harm < least) {
+                least = harm;
+                best = row;
+            }
+        }
+        StonesAbove x = walking("nl4.l9sl2.l7", first(6), gap, zigzag);
+        for (int i = 0; i < 6; i++) {
+            Check.due("18 GAP " + gap + ", ZIGZAG " + zigzag + ", order(" + i + ")", x.order(i), best[i]);
+        }
+        Check.dueOf256("19 GAP " + gap + ", ZIGZAG " + zigzag, x.ordered(0), x.ordered(1), least);
+    }
+
+    private static StonesAbove walking(String gully, String walkers, int gap, int zigzag) {
         StonesAbove x = Check.with(gully, walkers);
+        x.set(0, gap);
         x.set(1, zigzag);
         x.set(4, 8);
         x.set(5, 3);
@@ -183,12 +188,12 @@ public final class SearchEdgesTest {
     private static void helmetsAmongAllBits() {
         String[] gullies = {"nl4.l9sl2.l7", "l9l9l9l9l9l9l9l9l9l9l9l9l9l9l9l9", ".l5"};
         for (String gully : gullies) {
-            StonesAbove x = walking(gully, withHelmets(0), 0);
+            StonesAbove x = walking(gully, withHelmets(0), 2, 0);
             for (int k = 0; k <= 6; k++) {
                 int best = -1;
                 long least = Long.MAX_VALUE;
                 for (int bits = 0; bits < 64; bits++) {
-                    long harm = Integer.bitCount(bits) == k ? of256(walking(gully, withHelmets(bits), 0)) : Long.MAX_VALUE;
+                    long harm = Integer.bitCount(bits) == k ? of256(walking(gully, withHelmets(bits), 2, 0)) : Long.MAX_VALUE;
                     if (harm < least) {
                         least = harm;
                         best = bits;
@@ -209,10 +214,10 @@ public final class SearchEdgesTest {
     }
 
     private static void helmetsWhoeverHasOneNow() {
-        long bits = walking("nl4.l9sl2.l7", withHelmets(0), 0).helmets(3, 0);
-        long above = walking("nl4.l9sl2.l7", withHelmets(0), 0).helmets(3, 1);
+        long bits = walking("nl4.l9sl2.l7", withHelmets(0), 2, 0).helmets(3, 0);
+        long above = walking("nl4.l9sl2.l7", withHelmets(0), 2, 0).helmets(3, 1);
         for (int now = 0; now < 64; now += 7) {
-            StonesAbove x = walking("nl4.l9sl2.l7", withHelmets(now), 0);
+            StonesAbove x = walking("nl4.l9sl2.l7", withHelmets(now), 2, 0);
             Check.due("20 whoever has one now", x.helmets(3, 0), bits);
             Check.due("20 that HARM", x.helmets(3, 1), above);
             Check.due("20 they keep theirs", x.count(7), Integer.bitCount(now));
@@ -264,16 +269,26 @@ public final class SearchEdgesTest {
         }
     }
 
-    /** "which HIT as if it had an even number": in ZIGZAG WALKERS 1, 3, 5 are not hit. */
+    /** Of like ones that both leave some HIT: 40 and 8 of 256 by waits of 0 and of 2, at 16: 640 of 256 for both. */
+    private static void waitOfLikeOnesStillHit() {
+        StonesAbove x = Check.with("l1l8.l6l2", "11.;11.");
+        int[][] told = {{15, 0, 600}, {16, 0, 640}, {17, 2, 648}};
+        for (int[] t : told) {
+            Check.due("21 COST " + t[0], x.waits(1, 2, t[0], 0), t[1]);
+            Check.dueOf256("21 COST " + t[0], x.waits(1, 2, t[0], 1), x.waits(1, 2, t[0], 2), t[2]);
+        }
+    }
+
+    /** "which HIT as if it had an even number": in ZIGZAG WALKERS 1 and 3 are not hit. */
     private static void waitForEvenNumbers() {
-        StonesAbove x = Check.with("...l4", "10.;10.;10.;10.;10.;10.");
+        StonesAbove x = Check.with("...l4", "10.;10.;10.;10.;10.");
         x.set(0, 0);
-        // In minute 3 all six are in PART 3 at PACE 1, in PART 1 at PACE 2: by 2 PARTS.
+        // In minute 3 all five are in PART 3 at PACE 1, in PART 1 at PACE 2: by 2 PARTS.
         Check.dueOf256("21 straight", x.waits(1, 0, 1, 1), x.waits(1, 0, 1, 2), 0);
         x.set(1, 1);
         Check.dueOf256("21 zigzag", x.waits(1, 0, 1, 1), x.waits(1, 0, 1, 2), 3 * 4 * 2);
         x.set(1, 0);
-        Check.dueOf256("21 straight, ahead", x.waits(1, 2, 1, 1), x.waits(1, 2, 1, 2), 6 * 4 * 2);
+        Check.dueOf256("21 straight, ahead", x.waits(1, 2, 1, 1), x.waits(1, 2, 1, 2), 5 * 4 * 2);
     }
 
     private static void waitOfNone() {
