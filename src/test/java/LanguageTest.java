@@ -45,7 +45,6 @@ public final class LanguageTest {
             holds(f + " is private or told", told ? Modifier.isPublic(f.getModifiers()) : Modifier.isPrivate(f.getModifiers()));
         }
         holds("the class is final", Modifier.isFinal(StonesAbove.class.getModifiers()));
-        holds("twelve classes at most", StonesAbove.class.getDeclaredClasses().length <= 12);
     }
 
     private static void members(Class<?> c) {
