@@ -11,7 +11,7 @@ import java.util.stream.Collectors;
 import java.util.stream.Stream;
 
 /**
- * The document from its first line to its last, one scene through all of it, each answer reckoned by
+ * The document from its first line to its last, one scene through all of it, answers reckoned by
  * hand: PARTS l2 . n s l7, so stones from 4 HIT 0 by 4, 1 by 3, 2 by 4, 3 by none (with a helmet 2, 1, 2);
  * three WALKERS whose ODDS at 4 are 8, 5 and 7, at 0 are 3, 0 and 2; the second has the helmet.
  */
